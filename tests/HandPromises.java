@@ -51,6 +51,9 @@ public final class HandPromises {
         x.put(1, 4, 2);
         Check.due("the latest", x.draw(2, 2), 4);
         Check.due("the latest then", x.draw(2, 2), 3);
+        FirstPut full = Check.told(NINE + "line eldest;line latest;line eldest 8 7 6 5 4 3 2 1;");
+        Check.due("the eldest of a full last line", full.draw(0, 2), 8);
+        Check.due("the last one moved up", full.thing(1, 2), 6);
         Check.due("draw(4, 0)", x.draw(4, 0), BAD);
         Check.due("draw(-1, 0)", x.draw(-1, 0), BAD);
         Check.due("draw(0, 3)", x.draw(0, 3), BAD);

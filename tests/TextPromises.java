@@ -84,6 +84,10 @@ public final class TextPromises {
         Check.refused("chance 1 0;", 2, 9);
         Check.refused("chance 10", 2, 9);
         Check.refused("chance 10  ", 2, 11);
+        Check.refused(" ".repeat(476) + "line", 2, 480);
+        Check.refused(" ".repeat(471) + "chance 10", 2, 480);
+        Check.refused(" ".repeat(471) + "chance100", 1, 477);
+        Check.taken(" ".repeat(471) + "chance 9;", 1);
     }
 
     private static void faultsOfNumbers() {
