@@ -19,8 +19,10 @@ public final class DuelOrderRingEdges {
         ordersUpToSeven();
         ordersOfNothing();
         ordersOfAllNoted();
+        ordersByWeight();
         ringsByBounds();
         ringsOfFew();
+        ringsByALittle();
         ringsOfAll();
         join();
         Check.finish();
@@ -82,6 +84,10 @@ public final class DuelOrderRingEdges {
         for (int pieces = 0; pieces <= 2; pieces++) {
             Check.due("each piece saves one of two, " + pieces, six.duel(0, 0, 1, pieces, 4, 0), 960 + 20 * pieces);
             Check.due("each piece saves one of three, " + pieces, six.duel(0, 0, 1, pieces, 6, 0), 940 + 20 * pieces);
+        }
+        FirstPut his = Check.told("thing 3 1 20 0 0 0;".repeat(6) + "line latest 0 1 2 3 4 5;");
+        for (int pieces = 0; pieces <= 2; pieces++) {
+            Check.due("the second one's pieces, " + pieces, his.duel(0, 0, 1, pieces, 5, 0), 1060 - 20 * pieces);
         }
         FirstPut light = Check.told("thing 3 1 0 20 0 0;thing 3 1 0 20 0 0;line lightest 0 1;");
         Check.due("the lightest is rubbish", light.duel(0, 0, 1, 1, 2, 1), 1);
@@ -208,6 +214,29 @@ public final class DuelOrderRingEdges {
         }
     }
 
+    /** A lighter one that is not NOTED, wherever it lies now, lets no ORDER FIT. */
+    private static void ordersByWeight() {
+        String things = "thing 0 1 0 0 0 0;thing 0 2 0 0 0 0;thing 0 2 0 0 0 0;thing 0 3 0 0 0 0;";
+        for (String row : new String[] {"0 1 2 3", "1 0 2 3", "3 2 1 0"}) {
+            FirstPut x = Check.told(things + "line lightest " + row + ";");
+            x.noted(1);
+            Check.due("0 is lighter than 1", x.orders(0, 0), 0);
+            x.forget();
+            x.noted(0);
+            Check.due("the lightest, wherever it lies", x.orders(0, 0), 24);
+            x.noted(2);
+            Check.due("2 ahead of 1", x.orders(0, 0), 12);
+            x.noted(3);
+            Check.due("1 is lighter than 3", x.orders(0, 0), 0);
+        }
+        FirstPut drawn = Check.told(things + "line lightest 3 2 0;");
+        drawn.draw(1, 0);
+        drawn.noted(2);
+        Check.due("the lightest lies there no more", drawn.orders(0, 0), 2);
+        drawn.noted(0);
+        Check.due("one that lies there no more is noted", drawn.orders(0, 0), 0);
+    }
+
     private static void ringsByBounds() {
         for (Scene scene : Scene.values()) {
             Edge.bounds(scene, 0, 0, 3, "ring", 0);
@@ -234,6 +263,26 @@ public final class DuelOrderRingEdges {
         Check.due("his ring", two.with(0), 1);
         FirstPut lies = Check.told("thing 0 0 9 9 9 9;line eldest 0;");
         Check.due("what lies in a line is not brought", lies.ring(0), NONE);
+    }
+
+    private static void ringsOfTwo(String text, boolean swap) {
+        FirstPut x = Check.told(text);
+        int own = x.holds(0) == 1 ? 0 : 1;
+        Check.due("ring(0) of " + text, x.ring(0), swap ? 1 - own : own);
+        Check.due("ring(1) of " + text, x.ring(1), swap ? own : 1 - own);
+        Check.due("with(0) of " + text, x.with(0), swap ? 3 : 1);
+        Check.due("with(1) of " + text, x.with(1), swap ? 3 : 2);
+    }
+
+    /** ONE 1 would have what ONE 0 brings; ONE 0 likes the greatest VALUE by however little, of several the least THING. */
+    private static void ringsByALittle() {
+        ringsOfTwo("thing 0 0 5 9 0 0;thing 1 0 5 1 0 0;", false);
+        ringsOfTwo("thing 0 0 5 9 0 0;thing 1 0 6 1 0 0;", true);
+        ringsOfTwo("thing 0 0 6 9 0 0;thing 1 0 5 1 0 0;", false);
+        ringsOfTwo("thing 1 0 5 1 0 0;thing 0 0 5 9 0 0;", true);
+        ringsOfTwo("thing 1 0 5 1 0 0;thing 0 0 6 9 0 0;", false);
+        ringsOfTwo("thing 1 0 6 1 0 0;thing 0 0 5 9 0 0;", true);
+        ringsOfTwo("thing 0 0 0 20 0 0;thing 1 0 20 0 0 0;", true);
     }
 
     private static void ringsOfAll() {

@@ -24,6 +24,7 @@ public final class LanguageRules {
         library(code);
         face();
         classes();
+        methodLengths(source);
         Check.finish();
     }
 
@@ -90,6 +91,19 @@ public final class LanguageRules {
         for (Constructor<?> made : FirstPut.class.getDeclaredConstructors()) {
             Check.due("constructor " + made, made.getParameterCount(), 0);
         }
+    }
+
+    /** A method's lines are those from its head to the brace that stands as far in as the head. */
+    private static void methodLengths(String source) {
+        Matcher m = Pattern.compile("(?m)^( {4}| {8})(?! |class|enum|record)(?!.*\\b(class|if|for|while|switch)\\b)[^\n;=]*\\) \\{$"
+            + "(?s:(.*?))^\\1\\}$").matcher(source);
+        int methods = 0;
+        while (m.find()) {
+            methods++;
+            long length = m.group(3).lines().count();
+            Check.due("some sixty lines: " + m.group().lines().findFirst().orElse("").trim(), length <= 60 ? 1 : 0, 1);
+        }
+        Check.due("methods were found", methods > 100 ? 1 : 0, 1);
     }
 
     private static void classes() {

@@ -169,6 +169,12 @@ public final class OneMoreEdges {
         Check.due("eight of another", eight.most(1, 0), 0);
         eight.cut(7);
         Check.due("seven again", eight.most(2, 0), 10);
+        FirstPut gone = Check.told(start + "draw 0 3 1;draw 0 2 0;");
+        gone.cut(1);
+        Check.due("a DRAW that was cut", gone.most(2, 0), 0);
+        Check.due("no DRAW of his is left", gone.most(2, 10), NONE);
+        gone.cut(0);
+        Check.due("no VISIT is left", gone.most(2, 0), 0);
         FirstPut twelve = Check.told(start + "draw 0 2 0;".repeat(12));
         Check.due("twelve", twelve.most(2, 0), STATE);
     }

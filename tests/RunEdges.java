@@ -107,6 +107,8 @@ public final class RunEdges {
         FirstPut lies = Check.told("thing 0 0 0 0 0 0;line eldest 0;draw 0 3 0;");
         Check.due("what he put in ahead of the run", lies.lost(0), 0);
         Check.due("who draws it", lies.lost(3), 0);
+        FirstPut ahead = Check.told("thing 1 0 0 0 0 0;thing 1 0 0 0 0 0;thing 0 0 0 0 0 0;line eldest 0 1;draw 0 3 0;put 0 0 0 2;draw 0 3 0;");
+        Check.due("another lies ahead of it, each VISIT comes once", ahead.lost(0), 0);
         FirstPut all = Check.told("thing 2 0 0 0 0 0;".repeat(6) + "line eldest;put 0 2 0 0;put 0 2 0 1;put 0 2 0 2;put 0 2 0 3;"
             + "put 0 2 0 4;put 0 2 0 5;" + "draw 1 1 0;".repeat(6));
         Check.due("all six", all.lost(2), 63);

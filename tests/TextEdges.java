@@ -28,6 +28,7 @@ public final class TextEdges {
         theFirstMet();
         aFaultLeavesWhatWasTold();
         faultIsOfTheLatest();
+        oneTextBehindAnother();
         Check.finish();
     }
 
@@ -440,6 +441,28 @@ public final class TextEdges {
                 Check.due(scene + " stays by " + text, Scene.dump(x).equals(Scene.dump(twin)) ? 1 : 0, 1);
             }
         }
+    }
+
+    /** Nothing of the text ahead is left, be it one that was taken or one that was refused: neither its limits nor what it told. */
+    private static void oneTextBehindAnother() {
+        String all = TEN + "line eldest 0 1 2 3 4 5 6 7;line latest 8 9;line lightest;chance 3;" + "draw 99 0 2;".repeat(12);
+        FirstPut x = new FirstPut();
+        for (int time = 0; time < 3; time++) {
+            Check.due("all that there may be, time " + time, Check.tell(x, all), 26);
+            Check.due("and refused", Check.tell(x, all + "!"), -10 - all.length());
+        }
+        Check.due("where it lies", x.thing(8, 3), 0);
+        Check.due("THINGS that lie nowhere", Check.tell(x, "thing 2 0 0 0 0 0;".repeat(9) + "line eldest;draw 0 0 0;chance 4;"), 12);
+        for (int t = 0; t < 9; t++) {
+            Check.due("it is held", x.thing(t, 1), 2);
+            Check.due("it has no place", x.thing(t, 2), NONE);
+            Check.due("nobody put it in", x.thing(t, 3), NONE);
+        }
+        Check.due("no tenth THING", x.thing(9, 1), BAD);
+        Check.due("nothing lies there", x.line(0, 1), 0);
+        Check.due("an earlier DAY", x.visit(0, 0), 0);
+        Check.due("its CHANCE", x.chance(0), 4);
+        Check.due("who holds none", x.holds(0), 0);
     }
 
     private static void faultIsOfTheLatest() {
